@@ -663,7 +663,7 @@ public final class WhiffCoins {
         return 0;
       }
       size--;
-      return get(size);
+      return size < items.length ? items[size] : 0;
     }
 
     void clear() {
@@ -743,7 +743,7 @@ public final class WhiffCoins {
         } else if (step >= -3) {
           stack.add(step == -1 ? a : step == -2 ? b : c);
         } else if (step == -'!') {
-          stack.add(truth(stack.removeLast() == 0));
+          stack.add(stack.removeLast() == 0 ? 1 : 0);
         } else {
           int right = stack.removeLast();
           int left = stack.removeLast();
@@ -756,15 +756,15 @@ public final class WhiffCoins {
     private static int joined(int operator, int left, int right) {
       switch (operator) {
         case '|':
-          return truth(left != 0 || right != 0);
+          return left != 0 || right != 0 ? 1 : 0;
         case '&':
-          return truth(left != 0 && right != 0);
+          return left != 0 && right != 0 ? 1 : 0;
         case '<':
-          return truth(left < right);
+          return left < right ? 1 : 0;
         case '=':
-          return truth(left == right);
+          return left == right ? 1 : 0;
         case '>':
-          return truth(left > right);
+          return left > right ? 1 : 0;
         case '+':
           return left + right;
         case '-':
@@ -778,10 +778,6 @@ public final class WhiffCoins {
         default:
           return 0;
       }
-    }
-
-    private static int truth(boolean is) {
-      return is ? 1 : 0;
     }
   }
 
@@ -980,7 +976,7 @@ public final class WhiffCoins {
     }
 
     boolean holds(int trader, int coin) {
-      return hasCoin(coin) && holders.get(coin) == trader;
+      return coin >= 0 && coin < values.size() && holders.get(coin) == trader;
     }
 
     int heldBy(int trader) {
@@ -1047,9 +1043,9 @@ public final class WhiffCoins {
       return appraise(coin, trader) >= asked.get(trader);
     }
 
-    /** A SALE; false: it is REFUSED. */
+    /** A SALE; false: it is REFUSED. (Without wouldTake, so that calls stay at most eight deep.) */
     boolean sell(int coin, int trader) {
-      if (!wouldTake(trader, coin)) {
+      if (appraise(coin, trader) < asked.get(trader)) {
         return false;
       }
       holders.set(coin, trader);

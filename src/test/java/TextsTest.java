@@ -122,6 +122,11 @@ public final class TextsTest {
     Due.is("12: a longer one goes", Due.text(town, 1, "1+1+1+1"), 1);
     Due.is("12: a shorter one comes", Due.text(town, 1, "t"), 1);
     Due.is("12: a shorter one comes", town.law(1, 2, 3, 4), 4);
+    for (int i = 1; i <= 3; i++) {
+      String longest = "t+1+1+1+1+1+1+1+1+1+1+1+1+1+1+1+1+1+1+1+1+1+1+1-" + i;
+      Due.is("12: a long one behind another", Due.text(town, 1, longest), 1);
+      Due.is("12: a long one behind another", town.law(1, 2, 3, 4), 4 + 23 - i);
+    }
   }
 
   private static void gives(String signs, int v, int l, int d, int due) {
@@ -168,6 +173,8 @@ public final class TextsTest {
     gives("v+1<l*2&d", 2, 2, 9, 1);
     gives("v<l+d", 3, 2, 2, 1);
     gives("9999-9990", 0, 0, 0, 9);
+    gives("0", 1, 2, 3, 0);
+    gives("v+0", 1, 2, 3, 1);
     gives("0012", 0, 0, 0, 12);
     gives("v-(l-(d-1))", 9, 5, 3, 6);
   }

@@ -34,6 +34,11 @@ public final class ThoughtsTest {
     Due.is("18: the first one's price does not matter", town.worst(0, 1), 3);
     town.change(1, 1, 51);
     Due.is("18: nothing is taken", town.worst(0, 1), Due.NONE);
+    WhiffCoins plain = Due.town(0, 0);
+    Due.coin(plain, 2, 0, 0);
+    Due.coin(plain, 4, 0, 0);
+    Due.coin(plain, 3, 0, 0);
+    Due.is("18: coin 0", plain.worst(0, 1), 0);
     Due.is("18: has no coins", town.worst(2, 0), Due.NONE);
     Due.is("18: one and the same", town.worst(0, 0), Due.BEYOND);
     Due.is("18: trader 3", town.worst(3, 0), Due.BEYOND);
@@ -89,6 +94,7 @@ public final class ThoughtsTest {
     Due.is("20: two", town.launder(coin, 127, 1), 0);
     Due.is("20: three", town.launder(coin, 212, -1), 3);
     Due.is("20: three", town.launder(coin, 212, 2), 1);
+    Due.is("20: four would do", town.launder(coin, 121, -1), Due.NONE);
     Due.is("20: not back to the holder at once", town.launder(coin, 177, -1), Due.NONE);
     Due.is("20: nothing to be had", town.launder(coin, 5, -1), Due.NONE);
     Due.is("20: nothing to be had", town.launder(coin, 5, 2), Due.NONE);

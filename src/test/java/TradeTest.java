@@ -150,6 +150,14 @@ public final class TradeTest {
     Due.coin(mingled, 1, 0, 0);
     mingled.fade(1);
     Due.is("16: mingles, then fades", mingled.days(1), 0);
+    WhiffCoins latest = Due.town(0, 0);
+    Due.coin(latest, 1, 0, 71);
+    Due.coin(latest, 1, 0, 0);
+    Due.coin(latest, 1, 1, 621);
+    Due.coin(latest, 1, 1, 3);
+    latest.days(1);
+    Due.is("16: the latest of two mingles", latest.ofCoin(1, 3), 7);
+    Due.is("16: the latest of three mingles", latest.ofCoin(3, 3), 36);
     WhiffCoins odd = Due.town(0);
     Due.coin(odd, 1, 0, 77);
     odd.days(1);
