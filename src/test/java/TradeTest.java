@@ -10,7 +10,6 @@ public final class TradeTest {
     daysAtTheEnd();
     loose();
     looseByDraws();
-    manySales();
     Due.end();
   }
 
@@ -229,20 +228,5 @@ public final class TradeTest {
     }
     Due.is("17: sales", town.count(3), sales);
     Due.is("17: z", town.count(10), z);
-  }
-
-  /** As many as calls and days allow: 9999 are beyond what 512 calls reach. */
-  private static void manySales() {
-    WhiffCoins town = Due.town(50, 50);
-    town.change(0, 1, 0);
-    town.change(1, 1, 0);
-    town.coin(9, 0);
-    int sales = 0;
-    for (int i = 0; i < 240; i++) {
-      int holder = town.ofCoin(0, 1);
-      Due.is("15: goes to and fro", town.sale(0, 1 - holder), 1);
-      sales++;
-    }
-    Due.is("15: sales", town.count(3), sales);
   }
 }
