@@ -17,6 +17,7 @@ public final class EdgesTest {
     homeOfAll();
     backToFewer();
     sheetNumbers();
+    shorterSheet();
     waitingNumbers();
     daysBehindTheLast();
     images();
@@ -405,6 +406,29 @@ public final class EdgesTest {
     Due.is("32: 41", town.move(1, 0, 1, 0, 41), Due.BEYOND);
     Due.is("30: missing", town.sheet(1, 0, 40), 1);
     Due.is("31: missing", town.put(1, 0, 0), Due.NONE);
+  }
+
+  /** What a longer SHEET had must leave nothing behind in a shorter one. */
+  private static void shorterSheet() {
+    for (int coins = 0; coins <= 8; coins++) {
+      WhiffCoins town = Due.town(0, 0);
+      for (int coin = 0; coin < coins; coin++) {
+        town.coin(1, 0);
+      }
+      town.sheet(0, 8, 40);
+      for (int i = 0; i < 40; i++) {
+        town.put(0, i, 1);
+      }
+      Due.is("34: unlike", town.judge(0), 0);
+      Due.is("30: shorter, all 0", town.sheet(0, 8, coins), 1);
+      Due.is("34: all are", town.judge(0), -1);
+      Due.is("31: behind its end", town.put(0, coins, 1), Due.BEYOND);
+      Due.is("34: all are", town.judge(0), -1);
+      Due.is("33: no more than it has", town.prices(0), Math.min(2, coins));
+      Due.is("30: longer again, all 0", town.sheet(0, 8, 9), 1);
+      town.coin(1, 0);
+      Due.is("34: too many, all 0", town.judge(0), Math.min(8, coins + 1));
+    }
   }
 
   private static void waitingNumbers() {
